@@ -668,9 +668,8 @@ public final class TrainFerry {
         }
 
         boolean anyNear(int[] numbers, int track) {
-            int last = Math.min(track + 1, numbers.length - 1);
-            for (int near = Math.max(track - 1, 0); near <= last; near++) {
-                if (numbers[near] > 0) {
+            for (int i = 0; i < numbers.length; i++) {
+                if (numbers[i] > 0 && i >= track - 1 && i <= track + 1) {
                     return true;
                 }
             }
@@ -918,7 +917,7 @@ public final class TrainFerry {
 
         /** NONE behind the last one. */
         private int byteAt(int i) {
-            return isWithin(i, 0, Math.min(tape.size, MOST_BYTES) - 1) ? tape.bytes[i] : NONE;
+            return i >= 0 && i < tape.size && i < MOST_BYTES ? tape.bytes[i] : NONE;
         }
 
         private boolean isWord(String word) {

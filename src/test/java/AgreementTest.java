@@ -52,6 +52,10 @@ public final class AgreementTest {
         fault("x", 1, 0);
         fault(" fre", 1, 1);
         fault("freex 1;", 1, 0);
+        fault("freea 1;", 1, 0);
+        fault("freez 1;", 1, 0);
+        fault("frea 1;", 1, 0);
+        fault("tree 1;", 1, 0);
         fault("Free 1;", 1, 0);
         fault("free", 1, 4);
         fault("free  \n", 1, 7);

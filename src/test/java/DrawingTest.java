@@ -13,6 +13,8 @@ public final class DrawingTest {
         rampAheadOfTheDraw();
         sailing();
         chains();
+        firstChains();
+        firstLimit();
         wrongNumbers();
         Due.close();
     }
@@ -130,6 +132,10 @@ public final class DrawingTest {
         Due.same("125 of 100", x.on(0, 1), -4);
         x.wagon(0, 1, 6, 10, 0);
         Due.same("106 of 100", x.on(1, 1), -4);
+        x.off(1, 2);
+        x.wagon(0, 1, 20, 10, 0);
+        Due.same("81 of 100", x.on(1, 1), 9960);
+        Due.same("101 of 100", x.on(1, 1), -4);
     }
 
     private static void bars() {
@@ -168,7 +174,7 @@ public final class DrawingTest {
 
     private static void list() {
         TrainFerry x = open();
-        x.ship(100, 180, 5, 100);
+        x.ship(100, 180, 50, 100);
         for (int i = 0; i < 3; i++) {
             x.wagon(0, 0, 10, 60, 0);
         }
@@ -180,6 +186,14 @@ public final class DrawingTest {
         Due.same("off: 240 of 180", x.off(0, 0), -6);
         Due.same("what is refused changes nothing", x.count(0), 3);
         Due.same("still on the DECK", x.of(0, 0), 2);
+        x.wagon(0, 2, 10, 40, 0);
+        Due.same("20", x.on(2, 1), 10020);
+        Due.same("off: 200 of 180", x.off(0, 0), -6);
+        x.wagon(0, 2, 10, 20, 0);
+        Due.same("0", x.on(2, 1), 10000);
+        Due.same("off: 180 of 180", x.off(0, 1), 10180);
+        Due.same("and on again", x.on(1, 0), 10000);
+        Due.same("off: 20, 60", x.off(1, 2) + x.off(1, 2), 20080);
         Due.same("off: -120", x.off(3, 0), 9880);
         Due.same("ferry(1)", x.ferry(1), -120);
         Due.same("ferry(2)", x.ferry(2), 120);
@@ -273,6 +287,34 @@ public final class DrawingTest {
         y.on(0, 0);
         y.sea(4);
         Due.same("danger needs twice", y.ferry(3), 8);
+    }
+
+    private static void firstChains() {
+        TrainFerry x = open();
+        x.tide(0, 0, 5);
+        for (int i = 0; i < 13; i++) {
+            x.wagon(0, 0, 6, 10, i == 0 ? 0 : 2);
+            x.on(0, i % 4);
+        }
+        x.sea(4);
+        Due.same("100 of 100 are needed", x.ferry(3), 100);
+        Due.same("and enough", x.sail(), 13 + 22);
+        x.ticks(22);
+        x.wagon(1, 0, 6, 10, 0);
+        x.on(0, 0);
+        Due.same("104 of 100 are needed", x.ferry(3), 104);
+        Due.same("and not enough", x.sail(), -3);
+    }
+
+    private static void firstLimit() {
+        TrainFerry x = open();
+        x.wagon(0, 0, 10, 67, 0);
+        x.wagon(0, 1, 10, 50, 0);
+        x.wagon(0, 1, 10, 50, 0);
+        Due.same("-201 of 200", x.on(0, 0), -6);
+        Due.same("201 of 200", x.on(0, 3), -6);
+        Due.same("150 of 200", x.on(1, 3), 10150);
+        Due.same("200 of 200", x.on(1, 2), 10200);
     }
 
     private static void wrongNumbers() {

@@ -28,6 +28,13 @@ public final class FaceTest {
             Due.yes(told(method) + " is public", Modifier.isPublic(method.getModifiers()));
         }
         Due.same("methods missing: " + due, due.size(), 0);
+        for (Class<?> inside : TrainFerry.class.getDeclaredClasses()) {
+            Due.yes(inside.getName() + " is static", Modifier.isStatic(inside.getModifiers()));
+            Due.no(inside.getName() + " is public", Modifier.isPublic(inside.getModifiers()));
+            for (Method method : inside.getDeclaredMethods()) {
+                Due.no(method + " bears a public name", bearsPublicName(method));
+            }
+        }
         for (Field field : TrainFerry.class.getDeclaredFields()) {
             boolean isNone = field.getName().equals("NONE");
             Due.yes("field " + field.getName(), isNone || Modifier.isPrivate(field.getModifiers()));

@@ -241,10 +241,14 @@ public final class SearchTest {
         Due.same("ferry(5)", x.ferry(5), 40);
         int worst = x.emptying();
         Due.yes("there is an EMPTYING", worst >= 0);
+        int[] tracks = new int[40];
+        for (int i = 0; i < 40; i++) {
+            tracks[i] = x.emptied(i);
+        }
+        Due.same("emptied(40)", x.emptied(40), -1);
         int greatest = 0;
         for (int i = 0; i < 40; i++) {
-            int track = x.emptied(0);
-            int list = x.off(track, i % 3) - 10000;
+            int list = x.off(tracks[i], i % 3) - 10000;
             greatest = Math.max(greatest, Math.abs(list));
         }
         Due.same("its WORST", greatest, worst);

@@ -82,6 +82,8 @@ public final class WaitingTest {
         x.off(3, 2);
         x.ticks(3);
         waited(x, 1, 0, 0, 0, 7);
+        x.wagon(1, 0, 10, 10, 0);
+        Due.same("of(2, 9)", x.of(2, 9), 1);
         Due.same("of(1, 0)", x.of(1, 0), 1);
         Due.same("of(1, 1)", x.of(1, 1), 2);
         Due.same("of(1, 9)", x.of(1, 9), 0);
@@ -186,10 +188,25 @@ public final class WaitingTest {
         x.wagon(0, 0, 10, 10, 0);
         x.ticks(2);
         Due.same("nothing without one", x.count(6), 0);
-        Due.tell(x, "free 3;rate ramp 10 owner;");
-        x.agree(2);
+        Due.tell(x, "rate ramp 3 owner;");
+        x.agree(4);
+        x.ticks(2);
+        Due.same("nor by one that is not in force yet", x.count(6), 0);
+        x.ticks(1);
+        Due.same("but then", x.count(6), 3);
+        agreementsOfOneTick();
+    }
+
+    private static void agreementsOfOneTick() {
+        TrainFerry x = new TrainFerry();
+        x.wagon(0, 0, 10, 10, 0);
+        x.ticks(2);
         Due.tell(x, "rate ramp 9999 both;");
         x.agree(5);
+        Due.tell(x, "rate ramp 1 owner;");
+        x.agree(2);
+        Due.tell(x, "free 3;rate ramp 10 owner;");
+        x.agree(2);
         x.ticks(1);
         Due.same("TICKS without one count, too", x.of(0, 7), 0);
         x.ticks(2);

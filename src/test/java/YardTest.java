@@ -142,6 +142,14 @@ public final class YardTest {
         }
         Due.no("tide 201", x.tide(0, 5000, 0));
         Due.no("tide 201 of the other SHORE", x.tide(1, 5000, 0));
+        for (int shore = 0; shore < 2; shore++) {
+            TrainFerry y = new TrainFerry();
+            for (int i = 0; i < 200; i++) {
+                Due.yes("of 200 tides of one SHORE", y.tide(shore, 0, i % 50));
+            }
+            Due.no("tide 201 of it", y.tide(shore, 0, 0));
+            Due.no("tide 201 of the other", y.tide(1 - shore, 0, 0));
+        }
     }
 
     private static void tideOfTheLatestTick() {
