@@ -5,15 +5,41 @@ import java.util.NoSuchElementException;
 final class Due {
     private static int wrong = 0;
     private static int looked = 0;
+    private static String words = "";
+    private static int sentences = 0;
+    private static int lookedAhead = 0;
 
     private Due() {
+    }
+
+    /** The words of the document that the answers from here on are looked at for. */
+    static void sentence(String told) {
+        endSentence();
+        words = "'" + told + "': ";
+        sentences++;
+        lookedAhead = looked;
+    }
+
+    private static void endSentence() {
+        if (sentences > 0 && looked == lookedAhead) {
+            wrong++;
+            System.out.println(words + "no answer is looked at");
+        }
     }
 
     static void same(String call, long got, long want) {
         looked++;
         if (got != want) {
             wrong++;
-            System.out.println(call + " answered " + got + ", due is " + want);
+            System.out.println(words + call + " answered " + got + ", due is " + want);
+        }
+    }
+
+    static void same(String call, String got, String want) {
+        looked++;
+        if (!got.equals(want)) {
+            wrong++;
+            System.out.println(words + call + " answered " + got + ", due is " + want);
         }
     }
 
@@ -68,7 +94,9 @@ final class Due {
 
     /** Ends the test, with exit code 1 if an answer was not as due. */
     static void close() {
-        System.out.println(looked + " answers looked at, " + wrong + " not as due");
+        endSentence();
+        String of = sentences > 0 ? " for " + sentences + " sentences" : "";
+        System.out.println(looked + " answers looked at" + of + ", " + wrong + " not as due");
         if (wrong > 0 || looked == 0) {
             System.exit(1);
         }
