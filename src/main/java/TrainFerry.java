@@ -56,7 +56,6 @@ public final class TrainFerry {
     private final Shore[] shores = {new Shore(), new Shore()};
     private final Deck deck = new Deck();
     private final Wagon[] wagons = new Wagon[MOST_WAGONS];
-    private final Tape tape = new Tape();
     private final AgreementReader reader = new AgreementReader();
     private final Agreement[] agreements = new Agreement[MOST_AGREEMENTS];
     private final Schedule agreed = new Schedule(MOST_AGREEMENTS);
@@ -73,7 +72,6 @@ public final class TrainFerry {
     private int sea = 0;
     private int reach = 5;
     private int chains = 100;
-    private int faultPlace = NONE;
 
     public TrainFerry() {
     }
@@ -150,6 +148,7 @@ public final class TrainFerry {
     }
 
     public int feed(int a, int b, int c, int d, int e) {
+        Tape tape = reader.tape;
         if (tape.size + BYTES_OF_A_FEED > MOST_BYTES) {
             return NONE;
         }
@@ -162,10 +161,10 @@ public final class TrainFerry {
     }
 
     public int end(int n) {
-        if (!isWithin(n, 0, tape.size)) {
+        if (!isWithin(n, 0, reader.tape.size)) {
             return NONE;
         }
-        tape.size = n;
+        reader.tape.size = n;
         return n;
     }
 
@@ -174,9 +173,8 @@ public final class TrainFerry {
         if (!canBeTold(tick) || number >= MOST_AGREEMENTS) {
             return NONE;
         }
-        Agreement told = reader.read(tape);
-        tape.size = 0;
-        faultPlace = reader.faultPlace;
+        Agreement told = reader.read();
+        reader.tape.size = 0;
         if (told == null) {
             return -2 - reader.faultKind;
         }
@@ -186,7 +184,7 @@ public final class TrainFerry {
     }
 
     public int place() {
-        return faultPlace;
+        return reader.faultPlace;
     }
 
     public int on(int track, int deck) {
@@ -353,7 +351,7 @@ public final class TrainFerry {
             case 3:
                 return agreed.valueIn(now, NONE);
             case 4:
-                return tape.size;
+                return reader.tape.size;
             case 5:
                 return sea;
             case 6:
@@ -761,7 +759,7 @@ public final class TrainFerry {
         }
     }
 
-    /** Reads a TEXT token by token; the first FAULT ends it. */
+    /** Reads the TEXT on its TAPE token by token; the first FAULT ends it. */
     private static final class AgreementReader {
         private static final int AT_END = 0;
         private static final int WORD = 1;
@@ -772,16 +770,15 @@ public final class TrainFerry {
         private static final int WRONG_TOKEN = 1;
         private static final int TOO_MANY_RULES = 2;
 
+        final Tape tape = new Tape();
         int faultKind = 0;
         int faultPlace = NONE;
-        private Tape tape = null;
         private int token = AT_END;
         private int tokenStart = 0;
         private int tokenStop = 0;
 
         /** Null with a FAULT. */
-        Agreement read(Tape text) {
-            tape = text;
+        Agreement read() {
             tokenStop = 0;
             faultKind = 0;
             faultPlace = NONE;

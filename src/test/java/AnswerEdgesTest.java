@@ -176,6 +176,12 @@ public final class AnswerEdgesTest {
         Due.same("not so many", x.loading(2, 0, 0), -1);
         Due.same("below 0", x.loading(-1, 0, 0), -1);
         Due.same("step(0, 0)", x.step(0, 0), 1);
+        for (int i = 0; i < 6; i++) {
+            x.wagon(0, 0, 10, 10, 0);
+        }
+        Due.same("above 6", x.loading(7, 0, 0), -1);
+        Due.same("above 6 together", x.loading(6, 1, 0), -1);
+        Due.same("step(0, 0)", x.step(0, 0), 1);
         x.ship(100, 9, 5, 100);
         Due.same("no LOADING", x.loading(1, 0, 0), -1);
         Due.same("step(0, 0)", x.step(0, 0), 1);
