@@ -1,10 +1,15 @@
 import java.util.NoSuchElementException;
 import java.util.Random;
 
-/** All promises: long runs of calls, drawn from fixed seeds, answered as PlainFerry answers them. */
+/**
+ * All promises: runs of 512 calls, drawn from fixed seeds, answered as PlainFerry answers them. (What later
+ * calls answer is free.)
+ */
 public final class RandomRunsTest {
-    private static final int RUNS = 1500;
-    private static final int CALLS = 400;
+    private static final int RUNS = 8000;
+    private static final int MOST_CALLS = 512;
+    /** More than one way of calling takes at once. */
+    private static final int CALLS_KEPT = 40;
     private static final String[] WORDS = {"free", "rate", "storm", "ramp", "away", "other", "owner", "ferry", "both",
         ";", "0", "7", "12", "345", "9999", "12345", "x", "rates", "#", "\t", "Free"};
 
@@ -13,6 +18,7 @@ public final class RandomRunsTest {
     private final PlainFerry plain = new PlainFerry();
     private final int run;
     private final int mostOnDeck;
+    private int calls = 0;
 
     private RandomRunsTest(int run) {
         this.run = run;
@@ -30,17 +36,18 @@ public final class RandomRunsTest {
 
     private void go() {
         begin();
-        for (int i = 0; i < CALLS; i++) {
+        while (calls < MOST_CALLS - CALLS_KEPT) {
             call();
-            lookAtFerry();
-            if (i % 20 == 0) {
-                lookAtAll();
-            }
+            look();
         }
-        lookAtAll();
+        while (calls < MOST_CALLS) {
+            look();
+        }
     }
 
+    /** Each answer that is looked at here is that of one call. */
     private void same(String call, long got, long want) {
+        calls++;
         Due.same("run " + run + ": " + call, got, want);
     }
 
@@ -61,6 +68,15 @@ public final class RandomRunsTest {
         return way < 4 ? from(least - 1, most + 1) : from(least, most);
     }
 
+    private void ship() {
+        int length = near(40, 200);
+        int limit = random.nextInt(2) == 0 ? near(0, 2000) : from(0, 300);
+        int reach = near(0, 50);
+        int chains = random.nextInt(2) == 0 ? near(0, 1000) : from(0, 60);
+        same("ship(" + length + ", " + limit + ", " + reach + ", " + chains + ")",
+            told(x.ship(length, limit, reach, chains)), told(plain.ship(length, limit, reach, chains)));
+    }
+
     private void begin() {
         int length = from(40, run % 25 == 0 ? 200 : 120);
         int limit = run % 3 == 0 ? from(0, 120) : from(60, 500);
@@ -75,7 +91,9 @@ public final class RandomRunsTest {
 
     private void call() {
         int way = random.nextInt(100);
-        if (way < 18) {
+        if (way < 1) {
+            ship();
+        } else if (way < 18) {
             wagon();
         } else if (way < 44) {
             on();
@@ -197,21 +215,48 @@ public final class RandomRunsTest {
             return;
         }
         same("loading(" + a + ", " + b + ", " + c + ")", x.loading(a, b, c), plain.loading(a, b, c));
-        for (int i = -1; i < 7; i++) {
-            for (int what = -1; what < 3; what++) {
-                same("step(" + i + ", " + what + ")", x.step(i, what), plain.step(i, what));
-            }
+        for (int i = 0; i < 6 && plain.step(i, 0) >= 0; i++) {
+            same("step(" + i + ", 0)", x.step(i, 0), plain.step(i, 0));
+            same("step(" + i + ", 1)", x.step(i, 1), plain.step(i, 1));
         }
     }
 
     private void emptying() {
         same("emptying()", x.emptying(), plain.emptying());
         int last = Math.min(plain.ferry(5), 8);
-        for (int i = -1; i <= last; i++) {
+        for (int i = 0; i <= last; i++) {
             same("emptied(" + i + ")", x.emptied(i), plain.emptied(i));
         }
         int any = from(0, plain.ferry(5));
         same("emptied(" + any + ")", x.emptied(any), plain.emptied(any));
+    }
+
+    private void look() {
+        switch (random.nextInt(8)) {
+            case 0:
+                lookAtFerry();
+                break;
+            case 1:
+                lookAtRamps();
+                break;
+            case 2:
+                int what = near(0, 8);
+                same("count(" + what + ")", x.count(what), plain.count(what));
+                break;
+            case 3:
+                int i = near(0, 5);
+                int which = near(0, 1);
+                same("step(" + i + ", " + which + ")", x.step(i, which), plain.step(i, which));
+                break;
+            case 4:
+                lookAtTracks();
+                break;
+            default:
+                int wagon = near(0, Math.max(0, (int) plain.count(1) - 1));
+                int of = near(0, 9);
+                same("of(" + wagon + ", " + of + ")", x.of(wagon, of), plain.of(wagon, of));
+                break;
+        }
     }
 
     private void lookAtFerry() {
@@ -229,25 +274,33 @@ public final class RandomRunsTest {
             want = Long.MIN_VALUE;
         }
         same("ferry(" + what + ")", got, want);
-        same("isOpen(0)", told(x.isOpen(0)), told(plain.isOpen(0)));
-        same("isOpen(1)", told(x.isOpen(1)), told(plain.isOpen(1)));
     }
 
-    private void lookAtAll() {
-        for (int what = -1; what <= 9; what++) {
-            same("count(" + what + ")", x.count(what), plain.count(what));
+    private void lookAtRamps() {
+        int shore = near(0, 1);
+        long got = 0;
+        long want = 0;
+        try {
+            got = told(x.isOpen(shore));
+        } catch (NoSuchElementException e) {
+            got = Long.MIN_VALUE;
         }
-        for (int wagon = -1; wagon <= plain.count(1); wagon++) {
-            for (int what = -1; what <= 10; what++) {
-                same("of(" + wagon + ", " + what + ")", x.of(wagon, what), plain.of(wagon, what));
-            }
+        try {
+            want = told(plain.isOpen(shore));
+        } catch (NoSuchElementException e) {
+            want = Long.MIN_VALUE;
         }
-        for (int track = -1; track <= 4; track++) {
-            for (int i = -1; i <= 12; i++) {
-                same("deck(" + track + ", " + i + ")", x.deck(track, i), plain.deck(track, i));
-                same("yard(0, " + track + ", " + i + ")", x.yard(0, track, i), plain.yard(0, track, i));
-                same("yard(1, " + track + ", " + i + ")", x.yard(1, track, i), plain.yard(1, track, i));
-            }
+        same("isOpen(" + shore + ")", got, want);
+    }
+
+    private void lookAtTracks() {
+        int track = near(0, 3);
+        int i = near(0, random.nextInt(4) == 0 ? 12 : 3);
+        if (random.nextInt(3) == 0) {
+            same("deck(" + track + ", " + i + ")", x.deck(track, i), plain.deck(track, i));
+        } else {
+            int shore = near(0, 1);
+            same("yard(" + shore + ", " + track + ", " + i + ")", x.yard(shore, track, i), plain.yard(shore, track, i));
         }
     }
 }
