@@ -552,5 +552,15 @@ public final class TextEdgesTest {
         x.ticks(1);
         Due.same("owner", x.of(0, 7), 2);
         Due.same("ferry", x.of(0, 8), 3);
+        TrainFerry y = new TrainFerry();
+        y.wagon(0, 0, 10, 10, 0);
+        for (int i = 0; i < 20; i++) {
+            Due.tell(y, "rate ramp 5 owner;");
+            y.agree(3 + i);
+        }
+        y.ticks(3);
+        Due.same("twenty, but none in force yet", y.of(0, 7), 0);
+        y.ticks(1);
+        Due.same("then one", y.of(0, 7), 5);
     }
 }
